@@ -8,6 +8,7 @@ public final class CountTest {
     public static void main(String[] arguments) {
         aRunOfAll();
         grainsThatWereStrewnAreSomewhere();
+        mostGrainsAtAnyPlace();
         wrongCalls();
         checks.end();
     }
@@ -73,6 +74,14 @@ public final class CountTest {
         }
         checks.due("sum of the rows", plate.count(0), rows);
         checks.due("sum of the columns", plate.count(0), columns);
+    }
+
+    private static void mostGrainsAtAnyPlace() {
+        for (int place = 0; place < 144; place++) {
+            BowedPlate plate = new BowedPlate();
+            plate.strew(place % 12, place / 12, 1);
+            checks.due("count(10) with the most at place " + place, 6, plate.count(10));
+        }
     }
 
     private static void wrongCalls() {

@@ -25,7 +25,40 @@ public final class ModelTest {
                 test.call("object " + object + ", call " + call + ": ");
             }
         }
+        figuresOfAllWays();
+        possibleWaysOfAllClamps();
         checks.end();
+    }
+
+    private static void figuresOfAllWays() {
+        for (int still = 0; still <= 60; still++) {
+            BowedPlate plate = new BowedPlate();
+            PlateModel model = new PlateModel();
+            checks.due("set(2, " + still + ")", model.set(2, still), plate.set(2, still));
+            for (int way = 0; way < 48; way++) {
+                for (int what = 4; what <= 6; what++) {
+                    checks.due("up to " + still + ": way(" + way + ", " + what + ")",
+                            model.way(way, what), plate.way(way, what));
+                }
+            }
+        }
+    }
+
+    private static void possibleWaysOfAllClamps() {
+        for (int place = 0; place < 144; place++) {
+            BowedPlate plate = new BowedPlate();
+            PlateModel model = new PlateModel();
+            String title = "clamp at place " + place + ": ";
+            checks.due(title + "clamp", model.clamp(place % 12, place / 12), plate.clamp(place % 12, place / 12));
+            checks.due(title + "count(9)", model.count(9), plate.count(9));
+            for (int rank = 0; rank <= model.count(9); rank++) {
+                checks.due(title + "possible(" + rank + ")", model.possible(rank), plate.possible(rank));
+            }
+            for (int bow = 0; bow < 48; bow++) {
+                checks.due(title + "sounds of bow " + bow,
+                        model.sounds(bow / 12, bow % 12), plate.sounds(bow / 12, bow % 12));
+            }
+        }
     }
 
     private int below(int bound) {

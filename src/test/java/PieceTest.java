@@ -75,10 +75,13 @@ public final class PieceTest {
         }
         checks.due("waiting(2, 0)", -5, plate.waiting(2, 0));
         checks.due("strike(1) again", -5, plate.strike(1));
+        checks.due("strike(3)", 1, plate.strike(3));
+        checks.due("the first one is left", 0, plate.waiting(0, 0));
+        plate.undo();
         for (int side : new int[] {-1, 4, Integer.MIN_VALUE, Integer.MAX_VALUE}) {
             checks.due("strike(" + side + ")", -1, plate.strike(side));
         }
-        checks.due("undo()", 3, plate.undo());
+        checks.due("undo()", 2, plate.undo());
         checks.due("count(5) after undo", 5, plate.count(5));
         checks.due("strikes, strokes and mutes differ", 0, plate.count(6) + plate.count(7));
     }

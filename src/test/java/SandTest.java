@@ -17,6 +17,7 @@ public final class SandTest {
         stillPlacesKeepTheirGrains();
         calmestPlaceKeepsItsGrains();
         calmestPlaceAtTheEdgeLosesOne();
+        allFourEdgesAreEdges();
         noGrainGoesTwiceInOneStroke();
         strokesAddUp();
         checks.end();
@@ -226,6 +227,17 @@ public final class SandTest {
             checks.due("play(1)", 1, plate.play(1));
             checks.due("left with the setting 3 at " + row[0], row[1], plate.place(6, 0, 0));
             checks.due("fallen with the setting 3 at " + row[0], 5 - row[1], plate.count(3));
+        }
+    }
+
+    private static void allFourEdgesAreEdges() {
+        // all of these swing by more than 150 in the way 0, but the last two are inside
+        int[][] placeAndFallen = {{1, 0, 1}, {0, 1, 1}, {11, 10, 1}, {10, 11, 1}, {1, 1, 0}, {10, 10, 0}};
+        for (int[] row : placeAndFallen) {
+            BowedPlate plate = withGrainsAt(row[0], row[1], 4);
+            strokeInWay0(plate, 1);
+            checks.due("fallen at " + row[0] + ", " + row[1], row[2], plate.count(3));
+            checks.due("left of " + row[0] + ", " + row[1], 2, plate.place(row[0], row[1], 0));
         }
     }
 
