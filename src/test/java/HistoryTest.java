@@ -8,7 +8,6 @@ public final class HistoryTest {
     public static void main(String[] arguments) {
         undo();
         fourStatesAreKept();
-        everyActIsRecorded();
         othersAreNotRecorded();
         undoBringsAllBack();
         keepAndRestore();
@@ -48,48 +47,6 @@ public final class HistoryTest {
         checks.due("place(1, 1, 0)", 36, plate.place(1, 1, 0));
     }
 
-    private static void everyActIsRecorded() {
-        String[] acts = {"strew", "sweep", "clamp", "unclamp", "set", "bow", "bowAll", "strike", "play", "restore"};
-        for (String act : acts) {
-            BowedPlate plate = new BowedPlate();
-            plate.type('t');
-            plate.type('0');
-            plate.keep();
-            plate.clamp(2, 2);
-            plate.bow(0, 0, 1);
-            int[] before = allOf(plate);
-            checks.holds(act + " is no error", doAct(plate, act) >= 0);
-            checks.due("states after " + act, 3, plate.count(15));
-            checks.due("undo() after " + act, 2, plate.undo());
-            same("undo() after " + act, before, allOf(plate));
-        }
-    }
-
-    private static int doAct(BowedPlate plate, String act) {
-        switch (act) {
-            case "strew":
-                return plate.strew(0, 0, 1);
-            case "sweep":
-                return plate.sweep(2);
-            case "clamp":
-                return plate.clamp(3, 3);
-            case "unclamp":
-                return plate.unclamp(0);
-            case "set":
-                return plate.set(0, 7);
-            case "bow":
-                return plate.bow(0, 0, 1);
-            case "bowAll":
-                return plate.bowAll();
-            case "strike":
-                return plate.strike(0);
-            case "play":
-                return plate.play(1);
-            default:
-                return plate.restore();
-        }
-    }
-
     private static void othersAreNotRecorded() {
         BowedPlate plate = new BowedPlate();
         plate.strew(0, 0, 1);
@@ -116,62 +73,28 @@ public final class HistoryTest {
     }
 
     private static void undoBringsAllBack() {
-        BowedPlate plate = new BowedPlate();
-        plate.clamp(5, 5);
-        plate.set(2, 30);
-        plate.bow(0, 0, 3);
-        plate.play(1);
-        plate.bow(1, 1, 4);
-        int[] before = allOf(plate);
-        plate.keep();
-        plate.sweep(7);
-        plate.unclamp(0);
-        plate.set(2, 12);
-        plate.play(1);
-        for (int undos = 0; undos < 4; undos++) {
-            plate.undo();
-        }
-        same("undo", before, allOf(plate));
-        plate.sweep(7);
-        plate.unclamp(0);
-        plate.set(1, 12);
-        plate.play(1);
-        plate.restore();
-        same("restore", before, allOf(plate));
+        Run before = Run.of(plate -> plate.clamp(5, 5), plate -> plate.set(2, 30), plate -> plate.bow(0, 0, 3),
+                plate -> plate.play(1), plate -> plate.bow(1, 1, 4), BowedPlate::keep);
+        Run changed = before.then(plate -> plate.sweep(7), plate -> plate.unclamp(0), plate -> plate.set(2, 12),
+                plate -> plate.play(1));
+        same("undo()", before, changed.times(4, BowedPlate::undo));
+        same("restore()", before, changed.then(BowedPlate::restore));
+        BowedPlate plate = changed.then(BowedPlate::restore).plate();
         checks.due("restore() is an act", 4, plate.count(15));
         plate.undo();
         checks.due("undo() of restore()", 0, plate.count(4));
-        checks.due("undo() of restore()", 12, plate.count(12));
+        checks.due("undo() of restore()", 12, plate.count(13));
         checks.due("undo() of restore()", 0, plate.count(5));
     }
 
-    /** All that can be told of a state. */
-    private static int[] allOf(BowedPlate plate) {
-        int[] all = new int[15 + 144 * 4 + 16 * 4 + 8];
-        int length = 0;
-        for (int what = 0; what < 15; what++) {
-            all[length++] = plate.count(what);
-        }
-        for (int place = 0; place < 144; place++) {
-            for (int what = 0; what < 4; what++) {
-                all[length++] = plate.place(place % 12, place / 12, what);
+    /** The same is told of both, but for the states in the history. */
+    private static void same(String title, Run want, Run got) {
+        int[] due = want.told();
+        int[] told = got.told();
+        for (int question = 0; question < due.length; question++) {
+            if (!Questions.NAMES.get(question).equals("count(15)")) {
+                checks.due(title + ": " + Questions.NAMES.get(question), due[question], told[question]);
             }
-        }
-        for (int place = 0; place < 16; place++) {
-            for (int what = 0; what < 4; what++) {
-                all[length++] = plate.waiting(place, what);
-            }
-        }
-        for (int clamp = 0; clamp < 4; clamp++) {
-            all[length++] = plate.clampAt(clamp, false);
-            all[length++] = plate.clampAt(clamp, true);
-        }
-        return all;
-    }
-
-    private static void same(String title, int[] want, int[] got) {
-        for (int index = 0; index < want.length; index++) {
-            checks.due(title + ": number " + index, want[index], got[index]);
         }
     }
 

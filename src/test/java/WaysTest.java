@@ -238,14 +238,18 @@ public final class WaysTest {
     private static void possible() {
         BowedPlate plate = new BowedPlate();
         plate.clamp(11, 11);
+        boolean[] isHeard = new boolean[48];
+        for (int bow = 0; bow < 48; bow++) {
+            int way = plate.sounds(bow / 12, bow % 12);
+            if (way >= 0) {
+                isHeard[way] = true;
+            }
+        }
         int[] found = new int[48];
         int ways = 0;
         for (int way = 0; way < 48; way++) {
-            for (int bow = 0; bow < 48; bow++) {
-                if (plate.sounds(bow / 12, bow % 12) == way) {
-                    found[ways++] = way;
-                    break;
-                }
+            if (isHeard[way]) {
+                found[ways++] = way;
             }
         }
         checks.holds("a clamp leaves more than one way", ways > 1);
