@@ -849,6 +849,10 @@ public final class BowedPlate {
         }
 
         private void shake(int place) {
+            int target = targets[place];
+            if (target < 0 || target >= PLACES) {
+                return;
+            }
             int going = (now.grains[place] + 1) / 2;
             now.grains[place] -= going;
             if (isAtEdge(place) && swings[place] >= now.settings[FALL_SWING]) {
@@ -856,7 +860,7 @@ public final class BowedPlate {
                 now.fallen++;
             }
             // going into the arrivals keeps them from going on by the same stroke
-            arrivals[targets[place]] += going;
+            arrivals[target] += going;
         }
 
         private static boolean isAtEdge(int place) {

@@ -23,6 +23,7 @@ public final class BowEdgesTest {
         theFirstReasonIsTold();
         noneSounds();
         possibleWaysFromFirstToLast();
+        possibleWaysOfNow();
         checks.end();
     }
 
@@ -362,24 +363,73 @@ public final class BowEdgesTest {
     /** "the ways that sound with any bow, with the clamps of now, in their order": each rank, one beyond. */
     private static void possibleWaysFromFirstToLast() {
         for (int recipe = 0; recipe < 48; recipe++) {
-            BowedPlate plate = Recipes.ready(recipe).plate();
-            boolean[] sounds = new boolean[48];
-            for (int bow = 0; bow < 48; bow++) {
-                int way = plate.sounds(bow / 12, bow % 12);
-                if (way >= 0) {
-                    sounds[way] = true;
-                }
+            possibleAreThoseThatSound("clamps of " + recipe + ": ", Recipes.ready(recipe));
+        }
+        for (int place = 0; place < 144; place++) {
+            int x = place % 12;
+            int y = place / 12;
+            for (int least : new int[] {1, 19, 30, 60, 73, 91, 109, 146, 150}) {
+                possibleAreThoseThatSound("a clamp at " + x + ", " + y + " and " + least + ": ",
+                        Run.of(plate -> plate.set(1, least), plate -> plate.clamp(x, y)));
+                possibleAreThoseThatSound("a clamp at " + x + ", " + y + " and " + least + ", asked ahead of it too: ",
+                        Run.of(plate -> plate.set(1, least), plate -> plate.possible(0), plate -> plate.clamp(x, y)));
             }
-            int rank = 0;
-            for (int way = 0; way < 48; way++) {
-                if (sounds[way]) {
-                    checks.due("clamps of " + recipe + ": possible(" + rank + ")", way, plate.possible(rank));
-                    rank++;
-                }
+        }
+    }
+
+    private static void possibleAreThoseThatSound(String title, Run run) {
+        BowedPlate plate = run.plate();
+        int rank = 0;
+        boolean[] isHeard = heard(plate);
+        for (int way = 0; way < 48; way++) {
+            if (isHeard[way]) {
+                checks.due(title + "possible(" + rank + ")", way, plate.possible(rank));
+                rank++;
             }
-            checks.due("clamps of " + recipe + ": count(9)", rank, plate.count(9));
-            checks.due("clamps of " + recipe + ": one beyond", -5, plate.possible(rank));
-            checks.due("clamps of " + recipe + ": below the first", -2, plate.possible(-1));
+        }
+        checks.due(title + "count(9)", rank, plate.count(9));
+        checks.due(title + "one beyond", -5, plate.possible(rank));
+        checks.due(title + "below the first", -2, plate.possible(-1));
+    }
+
+    private static boolean[] heard(BowedPlate plate) {
+        boolean[] isHeard = new boolean[48];
+        for (int bow = 0; bow < 48; bow++) {
+            int way = plate.sounds(bow / 12, bow % 12);
+            if (way >= 0) {
+                isHeard[way] = true;
+            }
+        }
+        return isHeard;
+    }
+
+    /** "with the clamps of now": another answer as soon as a clamp is set, taken away, undone. */
+    private static void possibleWaysOfNow() {
+        for (int start = 0; start < 144; start += 4) {
+            BowedPlate plate = new BowedPlate();
+            for (int number = 0; number < 4; number++) {
+                int place = (start + 29 * number) % 144;
+                plate.clamp(place % 12, place / 12);
+                int due = 0;
+                for (boolean isHeard : heard(plate)) {
+                    due += isHeard ? 1 : 0;
+                }
+                checks.due("start " + start + ", " + (number + 1) + " clamps: count(9)", due, plate.count(9));
+                checks.due("start " + start + ", one beyond", -5, plate.possible(due));
+            }
+            for (int left = 3; left >= 0; left--) {
+                plate.unclamp(0);
+                int due = 0;
+                for (boolean isHeard : heard(plate)) {
+                    due += isHeard ? 1 : 0;
+                }
+                checks.due("start " + start + ", " + left + " clamps left: count(9)", due, plate.count(9));
+            }
+            plate.undo();
+            checks.due("start " + start + ", undone", -5, plate.possible(plate.count(9)));
+            plate.unclamp(0);
+            checks.due("start " + start + ", none: count(9)", 2, plate.count(9));
+            checks.due("start " + start + ", none: possible(1)", 1, plate.possible(1));
         }
     }
 }

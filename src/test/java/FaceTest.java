@@ -31,6 +31,7 @@ public final class FaceTest {
         methodsAreTheDocumentsOnes();
         fieldsAreTheConstants();
         classesInsideAreStatic();
+        allClassesAreSmall();
         checks.end();
     }
 
@@ -106,5 +107,34 @@ public final class FaceTest {
             checks.holds(inside + " is static and not public", Modifier.isStatic(modifiers)
                     && !Modifier.isPublic(modifiers) && !Modifier.isProtected(modifiers));
         }
+    }
+
+    /** LANGUAGE.md, rules 1, 5 and 11, for the class and those inside it. */
+    private static void allClassesAreSmall() {
+        Set<String> publicNames = new TreeSet<>();
+        for (String method : FACE) {
+            publicNames.add(method.substring(0, method.indexOf('(')));
+        }
+        isSmall(BowedPlate.class, publicNames);
+        for (Class<?> inside : BowedPlate.class.getDeclaredClasses()) {
+            isSmall(inside, publicNames);
+        }
+    }
+
+    private static void isSmall(Class<?> one, Set<String> publicNames) {
+        int fields = 0;
+        for (Field field : one.getDeclaredFields()) {
+            boolean isStatic = Modifier.isStatic(field.getModifiers());
+            fields += isStatic ? 0 : 1;
+            checks.holds(field + " is final, if it is static", !isStatic || Modifier.isFinal(field.getModifiers()));
+        }
+        checks.holds(one + " has at most twenty fields: " + fields, fields <= 20);
+        for (Method method : one.getDeclaredMethods()) {
+            checks.holds(method + " takes at most seven parameters", method.getParameterCount() <= 7);
+            checks.holds(method + ", if private, has a name of its own", method.isSynthetic()
+                    || !Modifier.isPrivate(method.getModifiers()) || !publicNames.contains(method.getName()));
+        }
+        checks.holds(one + " has no class inside it but the program's own", one == BowedPlate.class
+                || one.getDeclaredClasses().length == 0);
     }
 }

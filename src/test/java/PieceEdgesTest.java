@@ -141,8 +141,10 @@ public final class PieceEdgesTest {
             checks.due("count(5) behind play(" + played + ")", 16 - played, plate.count(5));
             checks.due("count(6) behind play(" + played + ")", played * (played + 1) / 2, plate.count(6));
             for (int place = 0; place < 16 - played; place++) {
-                checks.due("strokes at " + place + " behind play(" + played + ")", 1 + played + place,
-                        plate.waiting(place, 2));
+                int bowing = played + place;
+                checks.due("side at " + place + " behind play(" + played + ")", bowing % 4, plate.waiting(place, 0));
+                checks.due("place at " + place + " behind play(" + played + ")", bowing % 12, plate.waiting(place, 1));
+                checks.due("strokes at " + place + " behind play(" + played + ")", 1 + bowing, plate.waiting(place, 2));
             }
             checks.due("one beyond, behind play(" + played + ")", -5, plate.waiting(16 - played, 2));
         }
@@ -294,13 +296,15 @@ public final class PieceEdgesTest {
             checks.due("strike of all at " + side, 16, plate.strike(side));
             checks.due("none waits", 0, plate.count(5));
             checks.due("strike again", -5, plate.strike(side));
-            plate = Run.of(p -> p.bow(struck, 1, 1), p -> p.bow((struck + 1) % 4, 2, 2),
-                    p -> p.bow(struck, 3, 3), p -> p.bow(struck, 4, 4), p -> p.bow((struck + 2) % 4, 5, 5),
-                    p -> p.bow(struck, 6, 6)).plate();
+            plate = Run.of(p -> p.bow(struck, 1, 11), p -> p.bow((struck + 1) % 4, 2, 12),
+                    p -> p.bow(struck, 3, 13), p -> p.bow(struck, 4, 14), p -> p.bow((struck + 2) % 4, 5, 15),
+                    p -> p.bow(struck, 6, 16)).plate();
             checks.due("the first, two in a row, the last", 4, plate.strike(side));
             checks.due("two wait", 2, plate.count(5));
-            checks.due("the first of them", 2, plate.waiting(0, 2));
-            checks.due("the second of them", 5, plate.waiting(1, 2));
+            checks.due("the first of them: strokes", 12, plate.waiting(0, 2));
+            checks.due("the second of them: strokes", 15, plate.waiting(1, 2));
+            checks.due("the first of them: place", 2, plate.waiting(0, 1));
+            checks.due("the second of them: place", 5, plate.waiting(1, 1));
             checks.due("the first of them: side", (side + 1) % 4, plate.waiting(0, 0));
             checks.due("the second of them: side", (side + 2) % 4, plate.waiting(1, 0));
             checks.due("no third", -5, plate.waiting(2, 0));

@@ -26,10 +26,12 @@ public final class SandEdgesTest {
         notAroundTheEdge();
         everyPlaceInEveryWay();
         allPlacesAtOnce();
+        allPlacesAtOnceInEveryWay();
         whatComesDoesNotGoOn();
         stillPlacesAreThoseAtTheSettingToo();
         linesHangTogetherBySides();
         linesDoNotGoAroundTheEdge();
+        linesOfEveryWay();
         noStillPlacesNoLines();
         sandOnStillPlaces();
         sandOfEachLine();
@@ -376,6 +378,65 @@ public final class SandEdgesTest {
         }
     }
 
+    /** The whole plate with more grains on some places, so that grains of several meet at one. */
+    private static void allPlacesAtOnceInEveryWay() {
+        for (int way = 0; way < 48; way++) {
+            Run run = Recipes.ready(way).then(plate -> plate.sweep(3));
+            for (int number = 0; number < 20; number++) {
+                int place = (number * 53 + way * 7) % 144;
+                int grains = 1 + number * 4;
+                run = run.then(plate -> plate.strew(place % 12, place / 12, grains));
+            }
+            BowedPlate before = run.plate();
+            int[] due = new int[144];
+            for (int place = 0; place < 144; place++) {
+                due[place] = before.place(place % 12, place / 12, 0);
+            }
+            int fallen = 0;
+            for (int stroke = 0; stroke < 3; stroke++) {
+                fallen += strokeOf(way, due);
+            }
+            BowedPlate plate = run.then(Recipes.strokes(way, 3)).plate();
+            for (int place = 0; place < 144; place++) {
+                checks.due("way " + way + ", three strokes: place " + place, due[place],
+                        plate.place(place % 12, place / 12, 0));
+            }
+            checks.due("way " + way + ", three strokes: fallen", fallen, plate.count(3));
+            checks.due("way " + way + ", three strokes: none is lost", before.count(0) - fallen, plate.count(0));
+        }
+    }
+
+    /** A stroke by what swing() tells, with the first settings; how many fall off. */
+    private static int strokeOf(int way, int[] grains) {
+        BowedPlate ways = new BowedPlate();
+        int[] swings = new int[144];
+        for (int place = 0; place < 144; place++) {
+            swings[place] = ways.swing(way, place % 12, place / 12);
+        }
+        int[] change = new int[144];
+        int fallen = 0;
+        for (int place = 0; place < 144; place++) {
+            int go = swings[place] > 15 ? grains[place] - grains[place] / 2 : 0;
+            int x = place % 12;
+            int y = place / 12;
+            int falls = go > 0 && swings[place] >= 150 && (x == 0 || x == 11 || y == 0 || y == 11) ? 1 : 0;
+            int to = place;
+            for (int[] step : BESIDE) {
+                int beside = 12 * (y + step[1]) + x + step[0];
+                if (isPlace(x + step[0], y + step[1]) && swings[beside] < swings[to]) {
+                    to = beside;
+                }
+            }
+            change[place] -= go;
+            change[to] += go - falls;
+            fallen += falls;
+        }
+        for (int place = 0; place < 144; place++) {
+            grains[place] += change[place];
+        }
+        return fallen;
+    }
+
     /** "what comes to a place by a stroke does not go on by the same one": to the left and below too. */
     private static void whatComesDoesNotGoOn() {
         int[][] wayPlaceStep = {{0, 2, 2, 1, 0}, {0, 9, 9, 0, -1}, {0, 6, 9, -1, 0}, {0, 2, 5, 0, 1}};
@@ -441,6 +502,51 @@ public final class SandEdgesTest {
             plate.set(2, row[1]);
             checks.due("way(" + row[0] + ", 5) up to " + row[1], row[2], plate.way(row[0], 5));
         }
+    }
+
+    /** Two still places hang together if a row of still ones goes from one to the other. */
+    private static void linesOfEveryWay() {
+        for (int way = 0; way < 48; way++) {
+            BowedPlate plate = new BowedPlate();
+            int[] swings = new int[144];
+            for (int place = 0; place < 144; place++) {
+                swings[place] = plate.swing(way, place % 12, place / 12);
+            }
+            for (int still = 60; still >= 0; still--) {
+                plate.set(2, still);
+                checks.due("way(" + way + ", 5) up to " + still, linesOf(swings, still), plate.way(way, 5));
+            }
+            checks.due("way(" + way + ", 5) as at first", linesOf(swings, 15),
+                    new BowedPlate().way(way, 5));
+        }
+    }
+
+    /** Each still place takes the least number beside it, until none changes: so many keep their own. */
+    private static int linesOf(int[] swings, int still) {
+        int[] numbers = new int[144];
+        for (int place = 0; place < 144; place++) {
+            numbers[place] = place;
+        }
+        boolean isChanged = true;
+        while (isChanged) {
+            isChanged = false;
+            for (int place = 0; place < 144; place++) {
+                for (int[] step : BESIDE) {
+                    int x = place % 12 + step[0];
+                    int y = place / 12 + step[1];
+                    if (isPlace(x, y) && swings[place] <= still && swings[12 * y + x] <= still
+                            && numbers[12 * y + x] < numbers[place]) {
+                        numbers[place] = numbers[12 * y + x];
+                        isChanged = true;
+                    }
+                }
+            }
+        }
+        int lines = 0;
+        for (int place = 0; place < 144; place++) {
+            lines += swings[place] <= still && numbers[place] == place ? 1 : 0;
+        }
+        return lines;
     }
 
     /** A way without still places has no lines. */
