@@ -122,14 +122,6 @@ public final class BowEdgesTest {
         }
     }
 
-    private static int columnOf(int side, int along) {
-        return side == 1 ? 11 : side == 3 ? 0 : along;
-    }
-
-    private static int rowOf(int side, int along) {
-        return side == 0 ? 0 : side == 2 ? 11 : along;
-    }
-
     /** "(0 the row 0, 1 the column 11, 2 the row 11, 3 the column 0)": each way at each bow. */
     private static void sidesAreWhereTheyAreTold() {
         for (int bow = 0; bow < 48; bow++) {
@@ -137,7 +129,7 @@ public final class BowEdgesTest {
             int along = bow % 12;
             BowedPlate plate = new BowedPlate();
             for (int way = 0; way < 48; way++) {
-                boolean isTooLittle = plate.swing(way, columnOf(side, along), rowOf(side, along)) < 60;
+                boolean isTooLittle = plate.swing(way, Sides.columnOf(side, along), Sides.rowOf(side, along)) < 60;
                 checks.holds("why(" + way + ", " + side + ", " + along + ")",
                         (plate.why(way, side, along) == 2) == isTooLittle);
             }
@@ -154,7 +146,7 @@ public final class BowEdgesTest {
             BowedPlate plate = new BowedPlate();
             checks.due("corner " + corner, due[corner], plate.sounds(row[0], row[1]));
             checks.due("corner " + corner + " by its other side", due[corner], plate.sounds(row[2], row[3]));
-            plate.clamp(columnOf(row[0], row[1]), rowOf(row[0], row[1]));
+            plate.clamp(Sides.columnOf(row[0], row[1]), Sides.rowOf(row[0], row[1]));
             checks.due("a clamp at corner " + corner, -5, plate.sounds(row[0], row[1]));
             checks.due("a clamp at corner " + corner + " by its other side", -5, plate.sounds(row[2], row[3]));
         }
@@ -248,7 +240,7 @@ public final class BowEdgesTest {
             int along = bow % 12;
             for (int way = 0; way < 48; way++) {
                 BowedPlate plate = new BowedPlate();
-                int swing = plate.swing(way, columnOf(side, along), rowOf(side, along));
+                int swing = plate.swing(way, Sides.columnOf(side, along), Sides.rowOf(side, along));
                 String title = "way " + way + ", side " + side + ", along " + along + ": ";
                 if (swing >= 1 && swing <= 150) {
                     plate.set(1, swing);
@@ -306,13 +298,15 @@ public final class BowEdgesTest {
                     BowedPlate plate = Recipes.ready(recipe).plate();
                     int due = -5;
                     for (int way = 47; way >= 0; way--) {
-                        boolean isLoud = plate.swing(way, columnOf(side, along), rowOf(side, along)) >= plate.count(12);
+                        int swing = plate.swing(way, Sides.columnOf(side, along), Sides.rowOf(side, along));
+                        boolean isLoud = swing >= plate.count(12);
                         due = isLoud && plate.way(way, 7) == 1 ? way : due;
                     }
                     String title = "clamps of " + recipe + ", side " + side + ", along " + along + ": ";
                     checks.due(title + "sounds", due, plate.sounds(side, along));
                     for (int way = 0; way < 48; way++) {
-                        boolean isLoud = plate.swing(way, columnOf(side, along), rowOf(side, along)) >= plate.count(12);
+                        int swing = plate.swing(way, Sides.columnOf(side, along), Sides.rowOf(side, along));
+                        boolean isLoud = swing >= plate.count(12);
                         int reason = plate.way(way, 7) == 0 ? 1 : !isLoud ? 2 : way == due ? 0 : 3;
                         checks.due(title + "why of " + way, reason, plate.why(way, side, along));
                     }
@@ -346,7 +340,7 @@ public final class BowEdgesTest {
             int side = bow / 12;
             int along = bow % 12;
             BowedPlate plate = new BowedPlate();
-            plate.clamp(columnOf(side, along), rowOf(side, along));
+            plate.clamp(Sides.columnOf(side, along), Sides.rowOf(side, along));
             String title = "side " + side + ", along " + along + ": ";
             checks.due(title + "sounds", -5, plate.sounds(side, along));
             plate.bow(side, along, 3);

@@ -51,7 +51,8 @@ public final class DocumentTest {
 
     /** "Ahead of the calls .. the interface says: ---- ..": behind each heading its calls alone. */
     private static void theHeadingsStandAheadOfTheirCalls(String document, String program) {
-        Matcher sentence = Pattern.compile("Ahead of the calls (.*) the interface says: (---- .*)\\.").matcher(document);
+        Matcher sentence = Pattern.compile("Ahead of the calls (.*) the interface says: (---- .*)\\.")
+                .matcher(document);
         List<String> due = new ArrayList<>();
         while (sentence.find()) {
             due.add(sentence.group(2));

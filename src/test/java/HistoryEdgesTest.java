@@ -48,25 +48,6 @@ public final class HistoryEdgesTest {
         checks.end();
     }
 
-    private static void same(String title, Run want, Run got) {
-        int[] due = want.told();
-        int[] told = got.told();
-        for (int question = 0; question < due.length; question++) {
-            checks.due(title + ": " + Questions.NAMES.get(question), due[question], told[question]);
-        }
-    }
-
-    /** As same, but for how many states there are. */
-    private static void sameButForHistory(String title, Run want, Run got) {
-        int[] due = want.told();
-        int[] told = got.told();
-        for (int question = 0; question < due.length; question++) {
-            if (!Questions.NAMES.get(question).equals("count(15)")) {
-                checks.due(title + ": " + Questions.NAMES.get(question), due[question], told[question]);
-            }
-        }
-    }
-
     /** "NONE if the history is empty". */
     private static void emptyAtFirst() {
         BowedPlate plate = new BowedPlate();
@@ -114,7 +95,7 @@ public final class HistoryEdgesTest {
             Run acted = SOME.then(ACTS[index]);
             checks.due("count(15) behind " + ACT_NAMES[index], 3, acted.answer(plate -> plate.count(15)));
             checks.due("undo() of " + ACT_NAMES[index], 2, acted.answer(BowedPlate::undo));
-            same("undo() of " + ACT_NAMES[index], SOME, acted.then(BowedPlate::undo));
+            Questions.same(checks, "undo() of " + ACT_NAMES[index], SOME, acted.then(BowedPlate::undo));
         }
     }
 
@@ -125,8 +106,9 @@ public final class HistoryEdgesTest {
             Run acted = full.then(ACTS[index]);
             checks.due("4 states behind " + ACT_NAMES[index], 4, acted.answer(plate -> plate.count(15)));
             checks.due("undo() of " + ACT_NAMES[index], 3, acted.answer(BowedPlate::undo));
-            sameButForHistory("undo() of " + ACT_NAMES[index] + " in a full history", full, acted.then(BowedPlate::undo));
-            sameButForHistory("4 times undo() behind " + ACT_NAMES[index], SOME,
+            Questions.sameButForHistory(checks, "undo() of " + ACT_NAMES[index] + " in a full history", full,
+                    acted.then(BowedPlate::undo));
+            Questions.sameButForHistory(checks, "4 times undo() behind " + ACT_NAMES[index], SOME,
                     acted.times(4, BowedPlate::undo));
             checks.due("5 times undo() behind " + ACT_NAMES[index], -5,
                     acted.times(4, BowedPlate::undo).answer(BowedPlate::undo));
@@ -143,7 +125,7 @@ public final class HistoryEdgesTest {
             checks.holds("act " + act + " is no error", run.answer(acts[act]) >= 0);
             run = run.then(acts[act]);
             for (int undos = 1; undos <= 4 && undos <= act + 1; undos++) {
-                sameButForHistory(undos + " times undo() behind act " + act, before[act + 1 - undos],
+                Questions.sameButForHistory(checks, undos + " times undo() behind act " + act, before[act + 1 - undos],
                         run.times(undos, BowedPlate::undo));
             }
         }
@@ -266,7 +248,7 @@ public final class HistoryEdgesTest {
             differ += before[question] == behind[question] ? 0 : 1;
         }
         checks.holds("many counts changed: " + differ, differ >= 9);
-        sameButForHistory("4 times undo()", SOME, changed.times(4, BowedPlate::undo));
+        Questions.sameButForHistory(checks, "4 times undo()", SOME, changed.times(4, BowedPlate::undo));
         // count(6), count(7) and count(8) of strokes that are undone
         BowedPlate plate = Run.of(p -> p.clamp(0, 0), p -> p.bow(0, 0, 4), p -> p.bow(0, 11, 5), p -> p.play(2)).plate();
         checks.due("strokes", 5, plate.count(6));
@@ -346,10 +328,12 @@ public final class HistoryEdgesTest {
         Run changed = SOME.then(BowedPlate::keep).then(plate -> plate.play(16), plate -> plate.sweep(9),
                 plate -> plate.unclamp(0), plate -> plate.set(0, 1), plate -> plate.set(1, 1),
                 plate -> plate.set(2, 1), plate -> plate.set(3, 51), plate -> plate.clamp(9, 9));
-        sameButForHistory("restore()", SOME, changed.then(BowedPlate::restore));
+        Questions.sameButForHistory(checks, "restore()", SOME, changed.then(BowedPlate::restore));
         checks.due("what restore() answers", SOME.answer(plate -> plate.count(0)), changed.answer(BowedPlate::restore));
-        sameButForHistory("undo() of restore()", changed, changed.then(BowedPlate::restore, BowedPlate::undo));
-        sameButForHistory("restore() twice", SOME, changed.then(BowedPlate::restore, BowedPlate::restore));
+        Questions.sameButForHistory(checks, "undo() of restore()", changed,
+                changed.then(BowedPlate::restore, BowedPlate::undo));
+        Questions.sameButForHistory(checks, "restore() twice", SOME,
+                changed.then(BowedPlate::restore, BowedPlate::restore));
     }
 
     /** "everything but the text, the history and the snapshot". */

@@ -77,25 +77,14 @@ public final class HistoryTest {
                 plate -> plate.play(1), plate -> plate.bow(1, 1, 4), BowedPlate::keep);
         Run changed = before.then(plate -> plate.sweep(7), plate -> plate.unclamp(0), plate -> plate.set(2, 12),
                 plate -> plate.play(1));
-        same("undo()", before, changed.times(4, BowedPlate::undo));
-        same("restore()", before, changed.then(BowedPlate::restore));
+        Questions.sameButForHistory(checks, "undo()", before, changed.times(4, BowedPlate::undo));
+        Questions.sameButForHistory(checks, "restore()", before, changed.then(BowedPlate::restore));
         BowedPlate plate = changed.then(BowedPlate::restore).plate();
         checks.due("restore() is an act", 4, plate.count(15));
         plate.undo();
         checks.due("undo() of restore()", 0, plate.count(4));
         checks.due("undo() of restore()", 12, plate.count(13));
         checks.due("undo() of restore()", 0, plate.count(5));
-    }
-
-    /** The same is told of both, but for the states in the history. */
-    private static void same(String title, Run want, Run got) {
-        int[] due = want.told();
-        int[] told = got.told();
-        for (int question = 0; question < due.length; question++) {
-            if (!Questions.NAMES.get(question).equals("count(15)")) {
-                checks.due(title + ": " + Questions.NAMES.get(question), due[question], told[question]);
-            }
-        }
     }
 
     private static void keepAndRestore() {

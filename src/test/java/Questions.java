@@ -74,4 +74,24 @@ final class Questions {
             add("waiting(" + place + ", " + what + ")", plate -> plate.waiting(place, what));
         }
     }
+
+    /** Checks that the same is told behind both. */
+    static void same(Checks checks, String title, Run want, Run got) {
+        int[] due = want.told();
+        int[] told = got.told();
+        for (int question = 0; question < due.length; question++) {
+            checks.due(title + ": " + NAMES.get(question), due[question], told[question]);
+        }
+    }
+
+    /** As same, but for how many states the history has. */
+    static void sameButForHistory(Checks checks, String title, Run want, Run got) {
+        int[] due = want.told();
+        int[] told = got.told();
+        for (int question = 0; question < due.length; question++) {
+            if (!NAMES.get(question).equals("count(15)")) {
+                checks.due(title + ": " + NAMES.get(question), due[question], told[question]);
+            }
+        }
+    }
 }

@@ -316,8 +316,8 @@ public final class SandEdgesTest {
             for (int number = way % 4; number < 48; number += 4) {
                 int side = number / 12;
                 int along = number % 12;
-                int x = side == 1 ? 11 : side == 3 ? 0 : along;
-                int y = side == 0 ? 0 : side == 2 ? 11 : along;
+                int x = Sides.columnOf(side, along);
+                int y = Sides.rowOf(side, along);
                 BowedPlate plate = stroked(way, 1, x, y, 8, 0, 201);
                 int near = plate.place(x, y, 0);
                 for (int[] step : BESIDE) {

@@ -19,19 +19,11 @@ public final class SummaryTest {
         checks.end();
     }
 
-    private static int columnOf(int side, int along) {
-        return side == 1 ? 11 : side == 3 ? 0 : along;
-    }
-
-    private static int rowOf(int side, int along) {
-        return side == 0 ? 0 : side == 2 ? 11 : along;
-    }
-
     /** "clamps that hold places still": what sounds swings by little at each clamp. */
     private static void clampsHoldPlacesStill() {
         for (int recipe = 0; recipe < 48; recipe++) {
-            BowedPlate plate = Recipes.ready(recipe).plate();
             for (int bow = 0; bow < 48; bow++) {
+                BowedPlate plate = Recipes.ready(recipe).plate();
                 int way = plate.sounds(bow / 12, bow % 12);
                 for (int clamp = 0; way >= 0 && clamp < plate.count(4); clamp++) {
                     int swing = plate.swing(way, plate.clampAt(clamp, false), plate.clampAt(clamp, true));
@@ -53,7 +45,8 @@ public final class SummaryTest {
                 int lowest = Integer.MAX_VALUE;
                 for (int way = 0; way < 48; way++) {
                     boolean isAllowed = plate.way(way, 7) == 1
-                            && plate.swing(way, columnOf(side, along), rowOf(side, along)) >= plate.count(12);
+                            && plate.swing(way, Sides.columnOf(side, along), Sides.rowOf(side, along))
+                            >= plate.count(12);
                     lowest = isAllowed ? Math.min(lowest, plate.way(way, 3)) : lowest;
                 }
                 int sounding = plate.sounds(side, along);
@@ -84,20 +77,12 @@ public final class SummaryTest {
     private static void grainsMoveToPlacesThatSwingLess() {
         for (int way = 0; way < 48; way++) {
             Run ready = Recipes.ready(way).then(plate -> plate.set(3, 201));
-            BowedPlate plate = ready.then(Recipes.strokes(way, 1)).plate();
-            BowedPlate later = ready.then(Recipes.strokes(way, 1)).then(Recipes.strokes(way, 20)).plate();
-            checks.holds("way " + way + ": the sand swings less by each stroke", swingOfSand(plate, way) < 5 * swings(way)
-                    && swingOfSand(later, way) < swingOfSand(plate, way));
+            long first = swingOfSand(ready.plate(), way);
+            long one = swingOfSand(ready.then(Recipes.strokes(way, 1)).plate(), way);
+            long many = swingOfSand(ready.then(Recipes.strokes(way, 20)).plate(), way);
+            checks.holds("way " + way + ": the sand swings less by strokes: " + first + ", " + one + ", " + many,
+                    one < first && many < one);
         }
-    }
-
-    private static long swings(int way) {
-        BowedPlate plate = new BowedPlate();
-        long sum = 0;
-        for (int place = 0; place < 144; place++) {
-            sum += plate.swing(way, place % 12, place / 12);
-        }
-        return sum;
     }
 
     /** The swings of the places of all grains. */
@@ -154,9 +139,10 @@ public final class SummaryTest {
     /** "notes that can sound at all": each rank has a higher note, and a bow by which it sounds. */
     private static void notesThatCanSoundAtAll() {
         for (int recipe = 0; recipe < 48; recipe++) {
-            BowedPlate plate = Recipes.ready(recipe).plate();
+            int ways = Recipes.ready(recipe).answer(plate -> plate.count(9));
             int note = -1;
-            for (int rank = 0; rank < plate.count(9); rank++) {
+            for (int rank = 0; rank < ways; rank++) {
+                BowedPlate plate = Recipes.ready(recipe).plate();
                 int way = plate.possible(rank);
                 int next = plate.way(way, 3);
                 int bows = 0;
@@ -206,17 +192,7 @@ public final class SummaryTest {
         Run bowed = Run.of(plate -> plate.clamp(0, 0), plate -> plate.bow(0, 6, 20), plate -> plate.bow(0, 0, 1),
                 plate -> plate.bow(2, 11, 3), plate -> plate.bow(3, 4, 1)).typed("t6x20,t0,b11x3,l4");
         Run.Call play = plate -> plate.play(16);
-        sameButForHistory(bowed, typed);
-        sameButForHistory(bowed.then(play), typed.then(play));
-    }
-
-    private static void sameButForHistory(Run want, Run got) {
-        int[] due = want.told();
-        int[] told = got.told();
-        for (int question = 0; question < due.length; question++) {
-            if (!Questions.NAMES.get(question).equals("count(15)")) {
-                checks.due("by a text: " + Questions.NAMES.get(question), due[question], told[question]);
-            }
-        }
+        Questions.sameButForHistory(checks, "by a text", bowed, typed);
+        Questions.sameButForHistory(checks, "by a text", bowed.then(play), typed.then(play));
     }
 }
